@@ -771,45 +771,32 @@ public final class ClassGate {
             bytes = file.bytes;
         }
 
-        private boolean takes1() {
-            if (bytes.size() - at < 1) {
+        /** Takes one item of so many bytes. */
+        private boolean takes(int size) {
+            if (size > bytes.size() - at) {
                 return verdict.wrong(1, at);
             }
-            item = bytes.u1(at);
-            at += 1;
-            return true;
-        }
-
-        private boolean takes2() {
-            if (bytes.size() - at < 2) {
-                return verdict.wrong(1, at);
+            if (size == 1) {
+                item = bytes.u1(at);
+            } else {
+                item = size == 2 ? bytes.u2(at) : bytes.u4(at);
             }
-            item = bytes.u2(at);
-            at += 2;
-            return true;
-        }
-
-        private boolean takes4() {
-            if (bytes.size() - at < 4) {
-                return verdict.wrong(1, at);
-            }
-            item = bytes.u4(at);
-            at += 4;
+            at += size;
             return true;
         }
 
         boolean takesHead() {
-            if (!takes4()) {
+            if (!takes(4)) {
                 return false;
             }
             if (item != MAGIC) {
                 return verdict.wrong(2, 0);
             }
-            if (!takes2()) {
+            if (!takes(2)) {
                 return false;
             }
             file.minor = item;
-            if (!takes2()) {
+            if (!takes(2)) {
                 return false;
             }
             file.major = item;
@@ -821,7 +808,7 @@ public final class ClassGate {
 
         boolean takesPool() {
             int countAt = at;
-            if (!takes2()) {
+            if (!takes(2)) {
                 return false;
             }
             if (item == 0) {
@@ -839,7 +826,7 @@ public final class ClassGate {
 
         private boolean takesEntry(int k) {
             int tagAt = at;
-            if (!takes1()) {
+            if (!takes(1)) {
                 return false;
             }
             int tag = item;
@@ -855,10 +842,10 @@ public final class ClassGate {
                     return takesText(k);
                 case INTEGER:
                 case FLOAT:
-                    return takes4();
+                    return takes(4);
                 case LONG:
                 case DOUBLE:
-                    return takes4() && takes4();
+                    return takes(4) && takes(4);
                 default:
                     return takesIndexes(k, tag);
             }
@@ -881,14 +868,13 @@ public final class ClassGate {
         }
 
         private boolean takesIndexes(int k, int tag) {
-            boolean isTaken = tag == METHOD_HANDLE ? takes1() : takes2();
-            if (!isTaken) {
+            if (!takes(tag == METHOD_HANDLE ? 1 : 2)) {
                 return false;
             }
             int first = item;
             int second = 0;
             if (tag != CLASS && tag != STRING && tag != METHOD_TYPE && tag != MODULE && tag != PACKAGE) {
-                if (!takes2()) {
+                if (!takes(2)) {
                     return false;
                 }
                 second = item;
@@ -898,7 +884,7 @@ public final class ClassGate {
         }
 
         private boolean takesText(int k) {
-            if (!takes2()) {
+            if (!takes(2)) {
                 return false;
             }
             if (item > bytes.size() - at) {
@@ -946,12 +932,12 @@ public final class ClassGate {
 
         boolean takesClass() {
             file.flagsAt = at;
-            if (!takes2() || !takes2() || !takes2() || !takes2()) {
+            if (!takes(2) || !takes(2) || !takes(2) || !takes(2)) {
                 return false;
             }
             int number = item;
             for (int i = 0; i < number; i++) {
-                if (!takes2()) {
+                if (!takes(2)) {
                     return false;
                 }
             }
@@ -960,7 +946,7 @@ public final class ClassGate {
         }
 
         boolean takesFields() {
-            if (!takes2()) {
+            if (!takes(2)) {
                 return false;
             }
             file.fields = new Member[roomFor(item)];
@@ -968,7 +954,7 @@ public final class ClassGate {
         }
 
         boolean takesMethods() {
-            if (!takes2()) {
+            if (!takes(2)) {
                 return false;
             }
             file.methods = new Member[roomFor(item)];
@@ -983,7 +969,7 @@ public final class ClassGate {
         private boolean takesMembers(Member[] members, int number) {
             for (int i = 0; i < number; i++) {
                 int begin = at;
-                if (!takes2() || !takes2() || !takes2() || !takesAttributes()) {
+                if (!takes(2) || !takes(2) || !takes(2) || !takesAttributes()) {
                     return false;
                 }
                 if (i < members.length) {
@@ -994,12 +980,12 @@ public final class ClassGate {
         }
 
         private boolean takesAttributes() {
-            if (!takes2()) {
+            if (!takes(2)) {
                 return false;
             }
             int number = item;
             for (int i = 0; i < number; i++) {
-                if (!takes2() || !takes4()) {
+                if (!takes(2) || !takes(4)) {
                     return false;
                 }
                 if (item < 0 || item > bytes.size() - at) {

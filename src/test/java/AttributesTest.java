@@ -195,6 +195,9 @@ public final class AttributesTest {
             maker = new Maker(61);
             maker.method(257, "m", "()V").with(maker.attribute("Exceptions", Maker.u2(2, 2, index)));
             wrongOfMethod("exception " + index, maker, 32, 0);
+            maker = new Maker(61);
+            maker.method(257, "m", "()V").with(maker.attribute("Exceptions", Maker.u2(2, index, 2)));
+            wrongOfMethod("first exception " + index, maker, 32, 0);
         }
     }
 
@@ -212,6 +215,8 @@ public final class AttributesTest {
             Maker maker = new Maker(45);
             maker.attributes.add(maker.attribute("InnerClasses", Maker.u2(2, 2, 2, 1, 0), Maker.u2(row)));
             wrongOfClass("inner class " + row[0] + " " + row[1] + " " + row[2], maker, 33, 0);
+            maker.attributes.set(0, maker.attribute("InnerClasses", Maker.u2(2), Maker.u2(row), Maker.u2(2, 2, 1, 0)));
+            wrongOfClass("first inner class", maker, 33, 0);
         }
     }
 
@@ -365,6 +370,12 @@ public final class AttributesTest {
             maker.attributes.add(new Maker.Attribute(0, new byte[0]));
             maker.dynamic(tag, 2, "n", type);
             wrongOfClass("40 comes last", maker, 28, 1);
+            maker = new Maker(61);
+            maker.thisClass = maker.type("B");
+            maker.entries.set(2, Maker.join(Maker.u1(8), Maker.u2(maker.text("B"))));
+            maker.entries.set(1, Maker.join(Maker.u1(tag), Maker.u2(0, maker.pair("n", type))));
+            bytes = maker.bytes();
+            check.wrong("the very first entry", bytes, 40, maker.entryAt[1]);
         }
     }
 
@@ -398,6 +409,9 @@ public final class AttributesTest {
             maker.method(1, "m", "()V").with(maker.code(0, 1, Maker.u1(177), new byte[0], odd));
             wrongOfMethod("an attribute of " + length, maker, 30, 0);
         }
+        // The first attribute of a length below 0 leads back into the code, from where the other would end rightly.
+        Maker back = withCode(Maker.u2(0, 1), Maker.u4(6), Maker.u2(1), Maker.u4(10), Maker.u2(0, 2, 1), Maker.u4(-16));
+        wrongOfMethod("an attribute that leads back", back, 30, 0);
     }
 
     private static void codeLimits() {
@@ -442,6 +456,10 @@ public final class AttributesTest {
             byte[] rows = Maker.join(Maker.u2(0, 1, 0, 0), Maker.u2(row));
             maker.method(1, "m", "()V").with(maker.code(0, 1, Maker.u1(0, 0, 177), rows, new Maker.Attribute(0, new byte[0])));
             wrongOfMethod("row " + Arrays.toString(row), maker, 43, 0);
+            maker = new Maker(61);
+            rows = Maker.join(Maker.u2(row), Maker.u2(0, 1, 0, 0));
+            maker.method(1, "m", "()V").with(maker.code(0, 1, Maker.u1(0, 0, 177), rows));
+            wrongOfMethod("first row", maker, 43, 0);
         }
     }
 
@@ -451,6 +469,11 @@ public final class AttributesTest {
         maker.method(1, "m", "()V").with(maker.code(0, 1, Maker.u1(177), new byte[0], map, new Maker.Attribute(2, Maker.u1(1))));
         byte[] bytes = maker.bytes();
         check.wrong("an attribute's name", bytes, 28, maker.methodAttributeAt[0][0] + 6 + 8 + 1 + 2 + 2 + 9);
+        maker = new Maker(61);
+        byte[] rows = Maker.u2(0, 1, 0, 0, 0, 1, 0, 0);
+        maker.method(1, "m", "()V").with(maker.code(0, 1, Maker.u1(177), rows, new Maker.Attribute(0, Maker.u1(1))));
+        bytes = maker.bytes();
+        check.wrong("an attribute's name behind rows", bytes, 28, maker.methodAttributeAt[0][0] + 6 + 8 + 1 + 2 + 16 + 2);
         maker = new Maker(61);
         map = maker.attribute("StackMapTable");
         maker.method(1, "m", "()V").with(maker.code(0, 1, Maker.u1(177), new byte[0], map), maker.attribute("Exceptions", Maker.u2(0)));

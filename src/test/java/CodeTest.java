@@ -126,7 +126,7 @@ public final class CodeTest {
             told("wide load", maker, op(196, op(21 + i, s2(60000))), 21 + i, 0, 60000, 0, 0);
             told("wide store", maker, op(196, op(54 + i, s2(60000))), 54 + i, 0, 60000, 0, 0);
         }
-        told("iinc", maker, op(132, new int[] {255, 255}), 132, 0, 255, -1, 0);
+        told("iinc", maker, op(132, new int[] {255, 254}), 132, 0, 255, -2, 0);
         told("wide iinc", maker, op(196, op(132, s2(40000), s2(-30000))), 132, 0, 40000, -30000, 0);
         told("ret", maker, op(169, new int[] {9}), 169, 0, 9, 0, 0);
         told("wide ret", maker, op(196, op(169, s2(900))), 169, 0, 900, 0, 0);
@@ -220,24 +220,11 @@ public final class CodeTest {
             for (int what = 0; what < 5; what++) {
                 check.due("tableswitch what " + what, gate.instruction(0, before, what), due[what]);
             }
-            int[] targets = {before + 1, before, 0, before + 2};
-            int[] keys = {0, -1, 0, 1};
-            for (int i = 0; i < 4; i++) {
-                check.due("place " + i, gate.jump(0, before, i, false), targets[i]);
-                check.due("key " + i, gate.jump(0, before, i, true), keys[i]);
-            }
-            noPlaces(gate, before, 4);
-            for (int pad = 1; pad <= pads; pad++) {
-                int[] wrong = code.clone();
-                wrong[pad] = 1;
-                check.due("pad " + pad, gateOf(maker, 0, new int[before], wrong, RETURN).cut(0), -2 - before);
-            }
-            for (int length = 1; length < code.length; length++) {
-                int[] cut = Arrays.copyOf(code, length);
-                check.due("cut to " + length, gateOf(maker, 0, new int[before], cut).cut(0), -2 - before);
-            }
+            switchIsTold(gate, before, 0, -1, 0, 1);
+            switchIsRefused(maker, before, pads, code);
         }
         Maker maker = new Maker(61);
+        wholeCode(maker, table(3, 0, 0, 0, 1, 0, 0));
         one("one key", maker, 0, true, table(3, 0, 20, 7, 7, 20));
         one("low above high", maker, 0, false, table(3, 0, 20, 8, 7, 20));
         one("all keys", maker, 0, false, table(3, 0, 20, LOWEST, GREATEST, 20));
@@ -250,6 +237,37 @@ public final class CodeTest {
         one("a low target", maker, 0, false, table(3, 0, 20, 7, 8, 24, -1));
         ClassGate greatest = gateOf(maker, 0, table(3, 0, 0, GREATEST - 1, GREATEST, 24, 0), RETURN);
         check.due("greatest key", greatest.jump(0, 0, 2, true), GREATEST);
+    }
+
+    /** A switch of three keys that jumps behind itself, to itself, to the code's begin, and to the end. */
+    private static void switchIsTold(ClassGate gate, int k, int... keys) {
+        int[] targets = {k + 1, k, 0, k + 2};
+        for (int i = 0; i < 4; i++) {
+            check.due("place " + i, gate.jump(0, k, i, false), targets[i]);
+            check.due("key " + i, gate.jump(0, k, i, true), keys[i]);
+        }
+        noPlaces(gate, k, 4);
+    }
+
+    /** With a pad that is not 0, and with fewer bytes than it has. */
+    private static void switchIsRefused(Maker maker, int before, int pads, int[] code) {
+        for (int pad = 1; pad <= pads; pad++) {
+            int[] wrong = code.clone();
+            wrong[pad] = pad;
+            check.due("pad " + pad, gateOf(maker, 0, new int[before], wrong, new int[] {0, 177}).cut(0), -2 - before);
+        }
+        for (int length = 1; length < code.length; length++) {
+            int[] cut = Arrays.copyOf(code, length);
+            check.due("cut to " + length, gateOf(maker, 0, new int[before], cut).cut(0), -2 - before);
+        }
+    }
+
+    /** The code ends with an instruction all of whose bytes may be 0: with fewer of them it goes beyond the end. */
+    private static void wholeCode(Maker maker, int[] code) {
+        check.due("at the end of the code", gateOf(maker, 1, code).cut(0), 1);
+        for (int length = 1; length < code.length; length++) {
+            check.due("cut to " + length, gateOf(maker, 1, Arrays.copyOf(code, length)).cut(0), -2);
+        }
     }
 
     private static void noPlaces(ClassGate gate, int k, int count) {
@@ -275,24 +293,12 @@ public final class CodeTest {
             for (int what = 0; what < 5; what++) {
                 check.due("lookupswitch what " + what, gate.instruction(0, before, what), due[what]);
             }
-            int[] targets = {before + 1, before, 0, before + 2};
-            int[] keys = {0, LOWEST, -5, GREATEST};
-            for (int i = 0; i < 4; i++) {
-                check.due("place " + i, gate.jump(0, before, i, false), targets[i]);
-                check.due("key " + i, gate.jump(0, before, i, true), keys[i]);
-            }
-            noPlaces(gate, before, 4);
-            for (int pad = 1; pad <= pads; pad++) {
-                int[] wrong = code.clone();
-                wrong[pad] = 255;
-                check.due("pad " + pad, gateOf(maker, 0, new int[before], wrong, RETURN).cut(0), -2 - before);
-            }
-            for (int length = 1; length < code.length; length++) {
-                int[] cut = Arrays.copyOf(code, length);
-                check.due("cut to " + length, gateOf(maker, 0, new int[before], cut).cut(0), -2 - before);
-            }
+            switchIsTold(gate, before, 0, LOWEST, -5, GREATEST);
+            switchIsRefused(maker, before, pads, code);
         }
         Maker maker = new Maker(61);
+        wholeCode(maker, lookup(3, 0, 0, 0));
+        wholeCode(maker, lookup(3, 0, 0, 1, 0, 0));
         one("no pairs", maker, 0, true, lookup(3, 0, 12, 0));
         one("pairs below 0", maker, 0, false, lookup(3, 0, 12, -1));
         one("lowest pairs", maker, 0, false, lookup(3, 0, 12, LOWEST));
@@ -319,6 +325,11 @@ public final class CodeTest {
                 check.due("wide " + opcode, gate.cut(0), -3);
             }
         }
+        wholeCode(maker, op(196, op(21, s2(0))));
+        wholeCode(maker, op(196, op(132, s2(0), s2(0))));
+        wholeCode(maker, op(132, s2(0)));
+        wholeCode(maker, op(167, s2(0)));
+        wholeCode(maker, op(200, s4(0)));
         ClassGate gate = gateOf(maker, 9, op(167, s2(3)), op(196, op(21, s2(1))), RETURN);
         check.due("to the wide itself", gate.instruction(0, 0, 2), 1);
         gate = gateOf(maker, 9, op(167, s2(4)), op(196, op(21, s2(1))), RETURN);

@@ -84,13 +84,15 @@ public final class MembersTest {
         Maker maker = new Maker(61);
         maker.interfaces.addAll(List.of(maker.type("B"), maker.type("C"), maker.type("A")));
         check.due("three interfaces", check.kept("interfaces", maker).count(3), 3);
-        int[] wrong = {0, 1, 500, maker.type("[I"), maker.type("B"),
+        maker.interfaces.addAll(List.of(maker.type("D"), maker.type("E"), maker.type("F"), maker.type("G")));
+        check.due("seven interfaces", check.kept("interfaces", maker).count(3), 7);
+        int[] wrong = {0, 1, 500, maker.type("[I"), maker.type("B"), maker.type("D"), maker.type("G"),
             maker.entry(Maker.u1(7), Maker.u2(maker.textAgain("C")))};
         for (int one : wrong) {
             maker.interfaces.add(one);
             byte[] bytes = maker.bytes();
-            check.wrong("interface " + one, bytes, 18, maker.interfacesAt + 6);
-            maker.interfaces.remove(3);
+            check.wrong("interface " + one, bytes, 18, maker.interfacesAt + 14);
+            maker.interfaces.remove(7);
         }
     }
 
@@ -158,9 +160,12 @@ public final class MembersTest {
         maker.field(1, "f", "J");
         maker.field(1, "g", "I");
         check.kept("fields that differ", maker);
-        Maker.add(maker.fields, 2, maker.textAgain("f"), maker.textAgain("J"));
-        byte[] bytes = maker.bytes();
-        check.wrong("the same field", bytes, 22, maker.fieldAt[3]);
+        for (String type : new String[] {"I", "J"}) {
+            Maker.add(maker.fields, 2, maker.textAgain("f"), maker.textAgain(type));
+            byte[] bytes = maker.bytes();
+            check.wrong("the same field", bytes, 22, maker.fieldAt[3]);
+            maker.fields.remove(3);
+        }
     }
 
     private static void methodNames() {
@@ -271,9 +276,12 @@ public final class MembersTest {
         maker.method(257, "m", "()I");
         maker.method(257, "n", "()V");
         check.kept("methods that differ", maker);
-        Maker.add(maker.methods, 265, maker.textAgain("m"), maker.textAgain("()I"));
-        byte[] bytes = maker.bytes();
-        check.wrong("the same method", bytes, 26, maker.methodAt[3]);
+        for (String type : new String[] {"()V", "()I"}) {
+            Maker.add(maker.methods, 265, maker.textAgain("m"), maker.textAgain(type));
+            byte[] bytes = maker.bytes();
+            check.wrong("the same method", bytes, 26, maker.methodAt[3]);
+            maker.methods.remove(3);
+        }
     }
 
     private static void codeOrNone() {

@@ -227,5 +227,8 @@ public final class PoolTest {
         maker.flags = 32768;
         maker.thisClass = 0;
         broken("the pool before the class", maker, 9, first);
+        maker = new Maker(61);
+        maker.entries.set(1, Maker.join(Maker.u1(8), Maker.u2(2)));
+        broken("the very first entry", maker, 9, 1);
     }
 }

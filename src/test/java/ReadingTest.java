@@ -127,6 +127,7 @@ public final class ReadingTest {
         int[][] items = {
             {0, 4}, {4, 2}, {6, 2}, {8, 2}, {10, 1},
             {maker.entryAt[name], 1}, {maker.entryAt[name] + 1, 2}, {maker.entryAt[name] + 3, 4},
+            {maker.entryAt[name] + 7, 1},
             {maker.flagsAt, 2}, {maker.flagsAt + 2, 2}, {maker.flagsAt + 4, 2}, {maker.flagsAt + 6, 2},
             {maker.interfacesAt, 2}, {maker.interfacesAt + 2, 2},
             {maker.fieldAt[0], 2}, {maker.fieldAt[0] + 2, 2}, {maker.fieldAt[0] + 4, 2}, {maker.fieldAt[0] + 6, 2},
@@ -227,10 +228,12 @@ public final class ReadingTest {
         }
         check.due("of the empty text", gate.character(empty, 0), -1);
         check.due("characters in all", gate.count(11), 1 + 16 + 10);
-        Maker first = new Maker(61);
-        int bad = first.entry(Maker.u1(1), Maker.u2(1), Maker.u1(0));
-        first.entry(Maker.u1(77));
-        check.wrong("6 before 5", first.bytes(), 6, first.entryAt[bad]  + 3);
+        for (byte[] last : new byte[][] {{0}, {-64}, {-32, -128}}) {
+            Maker first = new Maker(61);
+            int bad = first.entry(Maker.u1(1), Maker.u2(last.length), last);
+            first.entry(Maker.u1(130));
+            check.wrong("6 before 5, which goes on with no character", first.bytes(), 6, first.entryAt[bad] + 3);
+        }
     }
 
     private static void wideEntries() {
