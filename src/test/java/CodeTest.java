@@ -225,6 +225,12 @@ public final class CodeTest {
         }
         Maker maker = new Maker(61);
         wholeCode(maker, table(3, 0, 0, 0, 1, 0, 0));
+        ClassGate back = gateOf(maker, 0, RETURN, table(2, 0, -1, 3, 3, -1));
+        check.due("a default before the switch", back.jump(0, 1, 0, false), 0);
+        check.due("nothing behind the last instruction", back.jump(0, 2, 0, false), -1);
+        ClassGate alone = gateOf(maker, 0, table(3, 0, 0, 3, 3, 0));
+        check.due("nor behind the only one", alone.jump(0, 1, 0, true), -1);
+        check.due("of which nothing else is told", alone.instruction(0, 1, 0), -1);
         one("one key", maker, 0, true, table(3, 0, 20, 7, 7, 20));
         one("low above high", maker, 0, false, table(3, 0, 20, 8, 7, 20));
         one("all keys", maker, 0, false, table(3, 0, 20, LOWEST, GREATEST, 20));

@@ -148,6 +148,12 @@ public final class PoolTest {
             maker.ref(Integer.parseInt(one[0]), "[LB;", one[1], one[2]);
             check.kept("ref " + String.join(" ", one), maker);
         }
+        Maker between = new Maker(61);
+        between.text("<init>");
+        between.text("n");
+        between.text("<clinit>");
+        between.ref(10, "B", "n", "()V");
+        check.kept("a name between others that have < and >", between);
         String[][] wrong = {{"9", "n", "()V"}, {"10", "n", "I"}, {"11", "n", "I"}, {"10", "<init>", "()I"}, {"10", "<init>", "I"},
             {"10", "<clinit>", "()V"}, {"10", "a<", "()V"}, {"10", ">", "()V"}, {"10", "<init>x", "()V"},
             {"11", "<init>", "()V"}, {"11", "<clinit>", "()V"}, {"11", "a>b", "()V"}};
