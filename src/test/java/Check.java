@@ -1,3 +1,5 @@
+import java.util.function.ToIntFunction;
+
 /** Counts the answers that are not as due, and ends a test by them. */
 final class Check {
     private int wrong;
@@ -43,6 +45,32 @@ final class Check {
         due(what + ": read", gate.read(), rule);
         due(what + ": place", gate.place(), place);
         due(what + ": no class", gate.count(0), -1);
+    }
+
+    /** Makes and reads a file that must be wrong by a rule, at a place that is known once it is made. */
+    void wrong(String what, Maker maker, int rule, ToIntFunction<Maker> place) {
+        byte[] bytes = maker.bytes();
+        wrong(what, bytes, rule, place.applyAsInt(maker));
+    }
+
+    /** A file on one of both sides of a boundary. */
+    void judged(String what, Maker maker, boolean isRight, int rule, ToIntFunction<Maker> place) {
+        if (isRight) {
+            kept(what, maker);
+        } else {
+            wrong(what, maker, rule, place);
+        }
+    }
+
+    /** Whether a call throws what the document names; anything else that it throws ends the test. */
+    void refused(String what, Class<? extends RuntimeException> named, Runnable call) {
+        RuntimeException thrown = null;
+        try {
+            call.run();
+        } catch (RuntimeException e) {
+            thrown = e;
+        }
+        due(what + ": refused by " + thrown, thrown != null && thrown.getClass() == named ? 1 : 0, 1);
     }
 
     void end() {
