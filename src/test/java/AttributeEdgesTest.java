@@ -803,6 +803,10 @@ public final class AttributeEdgesTest {
             int one = maker.dynamic(first, 1, "n", first == 17 ? "I" : "()V");
             maker.dynamic(35 - first, 0, "n", first == 17 ? "()V" : "I");
             check.wrong("the first of both kinds", maker, 40, made -> made.entryAt[one]);
+            maker.thisClass = 4;
+            maker.entries.set(2, Maker.utf8("B"));
+            maker.entries.set(1, maker.entries.get(one));
+            check.wrong("the very first entry", maker, 40, made -> made.entryAt[1]);
         }
     }
 

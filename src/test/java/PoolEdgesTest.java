@@ -6,6 +6,7 @@ public final class PoolEdgesTest {
 
     public static void main(String[] args) {
         entriesRising();
+        veryFirstEntry();
         ownIndex();
         indexOfNamedEntry();
         indexBehindHandle();
@@ -53,6 +54,17 @@ public final class PoolEdgesTest {
                 judged("first " + i + " then " + j, maker, false, rules[i], 6);
             }
         }
+    }
+
+    /** Entry 1 is one of them. */
+    private static void veryFirstEntry() {
+        Maker maker = new Maker(61);
+        maker.thisClass = 4;
+        maker.entries.set(2, Maker.utf8("B"));
+        maker.entries.set(1, Maker.join(Maker.u1(7), Maker.u2(2)));
+        judged("a class", maker, true, 9, 1);
+        maker.entries.set(1, Maker.join(Maker.u1(7), Maker.u2(4)));
+        judged("of what is no text", maker, false, 9, 1);
     }
 
     /** The raw form of an entry with these items. */
@@ -330,6 +342,8 @@ public final class PoolEdgesTest {
             pair("n", "(" + one.repeat(255) + ")V", true);
             pair("n", "(" + one.repeat(256) + ")V", false);
             pair("n", "(" + one.repeat(257) + ")V", false);
+            pair("n", "(" + one.repeat(255) + "V", false);
+            pair("n", "(" + one.repeat(256) + "V", false);
         }
         for (String two : new String[] {"J", "D"}) {
             pair("n", "(" + two.repeat(127) + ")V", true);
@@ -396,6 +410,13 @@ public final class PoolEdgesTest {
             ref(tag, "init", "()V", true);
             ref(tag, "<init>", "()V", tag == 10);
         }
+        Maker maker = new Maker(61);
+        maker.text("<before>");
+        maker.text("m");
+        maker.text("<behind>");
+        maker.ref(10, "B", "m", "()V");
+        maker.ref(11, "B", "m", "()V");
+        check.kept("a name's own characters alone", maker);
     }
 
     /** ".. with a descriptor that ends in V". */
