@@ -45,6 +45,8 @@ public final class CodeEdgesTest {
         instructionOfEach();
         operandsOfSwitches();
         jumpsToInstructions();
+        instructionsInAnyOrder();
+        oneInstructionBehindAnother();
         instructionThatIsNone();
         instructionOtherWhats();
         placesOfSwitches();
@@ -787,6 +789,49 @@ public final class CodeEdgesTest {
         int[] places = {0, 3, 6, 9, 12, 15, 20};
         for (int k = 0; k < places.length; k++) {
             check.due("place of " + k, gate.instruction(0, k, 1), places[k]);
+        }
+    }
+
+    /** What is told of an instruction does not hang on which one was asked for before. */
+    private static void instructionsInAnyOrder() {
+        Maker maker = new Maker(61);
+        int array = maker.type("[[I");
+        int field = maker.ref(9, "B", "f", "I");
+        int ofInterface = maker.ref(11, "B", "m", "(I)V");
+        int[] code = join(op(17, s2(300)), nops(1), new int[] {132, 1, 250}, op(197, s2(array), new int[] {2}), new int[] {177},
+                op(185, s2(ofInterface), new int[] {2, 0}), op(178, s2(field)), table(20, 0, 7, 9, 0, 28, -20), op(167, s2(3)),
+                lookup(51, 0, 1, -6, 0), new int[] {3}, wide(22, 2), op(167, s2(0)), new int[] {87});
+        ClassGate gate = gateOf(maker, 4, code);
+        int[][] due = {{17, 0, 300, 0, 0}, {0, 3, 0, 0, 0}, {132, 4, 1, -6, 0}, {197, 7, array, 2, 0}, {177, 11, 0, 0, 0},
+            {185, 12, ofInterface, 2, 0}, {178, 17, field, 0, 0}, {170, 20, 7, 9, 4}, {167, 48, 9, 0, 0}, {171, 51, 1, 0, 2},
+            {3, 68, 0, 0, 0}, {22, 69, 2, 0, 0}, {167, 73, 12, 0, 0}, {87, 76, 0, 0, 0}};
+        check.due("so many", gate.cut(0), due.length);
+        for (int first = 0; first < due.length; first++) {
+            for (int then = 0; then < due.length; then++) {
+                for (int what = 0; what <= 4; what++) {
+                    check.due("instruction " + first + " what " + what, gate.instruction(0, first, what), due[first][what]);
+                    check.due("then " + then + " what " + what, gate.instruction(0, then, what), due[then][what]);
+                    boolean isSwitch = due[then][4] > 0;
+                    check.due("then a place", gate.jump(0, then, 0, false), isSwitch ? then : -1);
+                }
+            }
+        }
+    }
+
+    /** Nor does it hang on the instruction before it whether one is right. */
+    private static void oneInstructionBehindAnother() {
+        Maker maker = new Maker(50);
+        int[][] right = {{0}, {17, 1, 0}, {26}, {21, 0}, {196, 21, 0, 0}, {132, 0, 200}, {188, 4}, {192, 0, 2}, {167, 0, 0}, {200, 0, 0, 0, 0},
+            {196, 132, 0, 0, 1, 0}, {30}};
+        int[][] wrong = {{188, 3}, {28}, {31}, {21, 2}, {196, 21, 1, 0}, {192, 0, 1}, {18, 1}, {187, 0, 1}, {197, 0, 2, 1}, {202}};
+        for (int[] first : right) {
+            for (int[] then : right) {
+                cut("right ones", maker, 2, 2, first, then);
+            }
+            for (int[] then : wrong) {
+                cut("a wrong one behind it", maker, 2, -2 - first.length, first, then);
+                cut("a wrong one before it", maker, 2, -2, then, first);
+            }
         }
     }
 
