@@ -670,6 +670,10 @@ public final class AttributeEdgesTest {
             maker.method(1, "m", "()V").with(maker.attribute("Code", Maker.u2(0, 1), Maker.u4(length), Maker.u1(177), Maker.u2(0, 0)));
             ofMethod("code_length " + length, maker, 30, 0);
         }
+        // With a sign it would lead back to max_stack, from where twelve bytes would be a form too.
+        Maker back = new Maker(61);
+        back.method(1, "m", "()V").with(back.attribute("Code", Maker.u2(1, 1), Maker.u4(-8), Maker.u2(0, 0)));
+        ofMethod("a length that leads back", back, 30, 0);
     }
 
     /** "42 max_locals less than the places of arguments and this". */
